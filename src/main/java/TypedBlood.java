@@ -53,7 +53,7 @@ public final class TypedBlood {
     private static final int WASHING = 1;
     private static final int IRRADIATING = 2;
     private static final int SPLIT_PRODUCTS = 3;
-    /** By how; splitting limits its platelets alone. */
+    /** By how; splitting adds no mark, and limits its platelets alone. */
     private static final int[] ADDED_MARK = {0, 1, 2, 4};
     private static final int[] PRODUCT_LIMIT = {7200, 1440, 20160, 1440};
 
@@ -692,9 +692,7 @@ public final class TypedBlood {
         }
 
         void takeSample(int newGroup, int newRhesus, int minute) {
-            if (group == NONE) {
-                status = NOT_CONFIRMED;
-            } else {
+            if (group != NONE) {
                 status = group == newGroup && rhesus == newRhesus ? CONFIRMED : LOCKED;
             }
             group = newGroup;

@@ -109,13 +109,4 @@ final class Check {
     static int redCells(TypedBlood x, int donor) {
         return x.unit(donor, RED, O, 0, 60000);
     }
-
-    static void passLong(TypedBlood x, int minutes) {
-        int left = minutes;
-        while (left > 50000) {
-            x.pass(50000);
-            left -= 50000;
-        }
-        x.pass(left);
-    }
 }

@@ -264,6 +264,12 @@ public final class ListsTest {
         x.pass(50000);
         lists("issued to another then", i -> x.received(p, i), 1, 2);
         lists("another's", i -> x.received(q, i), 0, 4);
+        int u = Check.plasma(x, 9);
+        x.emergency(q, u, 1);
+        x.giveBack(u);
+        x.reserve(q, u);
+        lists("given back, then only reserved", i -> x.received(q, i), 0, 4);
+        lists("given back, then only reserved", i -> x.lookback(9, i));
         Check.fails("received", Check.NO_SUCH, () -> x.received(2, 0));
         Check.fails("received", Check.NO_SUCH, () -> x.received(-1, 0));
     }
