@@ -169,7 +169,8 @@ public final class AfterIssueBoundsTest {
     private static void allAreBarred() {
         Story story = Story.begin().times(48, (x, u) -> Check.plasma(x, u % 16))
             .times(15, (x, donor) -> x.quarantine(donor, true));
-        story.answers("all 48", 48, x -> x.quarantine(15, true)).answers("all but three", 45, x -> x.quarantine(15, false));
+        story.answers("all 48", 48, x -> x.quarantine(15, true));
+        story.answers("all but three", 45, x -> x.quarantine(15, false));
         story.then(x -> x.quarantine(15, true)).answers("none is ready", 0, x -> x.stock(Check.PLASMA, Check.AB, 0));
     }
 

@@ -48,7 +48,7 @@ public final class ListBoundsTest {
 
     /** "IllegalArgumentException when there is no such kind." */
     private static void kindsOfAnOffer() {
-        Story story = patient().times(4, (x, kind) -> x.unit(0, kind, Check.O, 0, 100));
+        Story story = Story.everyState(Check.PLASMA).then(x -> x.need(0, 2), x -> x.antibody(0, 1));
         story.bounds("kind", Check.ARGUMENT, 0, 3, (x, n) -> x.offer(0, n, 0));
         for (int i : new int[] {-1, 48, Integer.MIN_VALUE, Integer.MAX_VALUE}) {
             story.refuses("kind 4 with any i", Check.ARGUMENT, x -> x.offer(0, 4, i));
@@ -153,7 +153,7 @@ public final class ListBoundsTest {
 
     /** "IllegalArgumentException when minutes is not 0 .. 60000." */
     private static void minutesOfExpiring() {
-        Story story = Story.begin().then(x -> Check.plasma(x, 0));
+        Story story = Story.everyState(Check.PLASMA);
         for (int i : new int[] {0, -1, Integer.MIN_VALUE, Integer.MAX_VALUE}) {
             story.bounds("minutes", Check.ARGUMENT, 0, 60000, (x, n) -> x.expiring(n, i));
         }

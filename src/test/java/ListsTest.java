@@ -102,7 +102,8 @@ public final class ListsTest {
                 for (int rhesus = -1; rhesus < 2; rhesus++) {
                     int due = 0;
                     for (int[] u : units) {
-                        boolean fits = u[0] == kind && (group == -1 || u[1] == group) && (rhesus == -1 || u[2] == rhesus);
+                        boolean fits = u[0] == kind && (group == -1 || u[1] == group)
+                            && (rhesus == -1 || u[2] == rhesus);
                         due += fits ? 1 : 0;
                     }
                     Check.same("stock " + kind + ", " + group + ", " + rhesus, x.stock(kind, group, rhesus), due);

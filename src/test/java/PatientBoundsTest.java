@@ -185,7 +185,11 @@ public final class PatientBoundsTest {
 
     /** "IndexOutOfBoundsException when there is no such what." */
     private static void whatOfAPatient() {
-        Story.begin().then(x -> x.patient()).bounds("what", Check.INDEX, 0, 4, (x, n) -> x.who(0, n));
-        Story.begin().then(x -> Check.locked(x)).bounds("what", Check.INDEX, 0, 4, (x, n) -> x.who(0, n));
+        Story story = Story.begin().then(x -> x.patient(), x -> Check.confirmed(x, Check.A, 1), x -> Check.locked(x))
+            .times(3, (x, p) -> x.antibody(p, p)).times(3, (x, p) -> x.need(p, p + 1)).then(x -> x.pass(10));
+        for (int status = 0; status < 3; status++) {
+            int p = status;
+            story.bounds("what in status " + p, Check.INDEX, 0, 4, (x, n) -> x.who(p, n));
+        }
     }
 }

@@ -1,6 +1,7 @@
 /** The boundaries of promises 5 and 6, and of processing and pooling under 'Terms'. */
 public final class ProcessingBoundsTest {
     private static final int[] LIMITS = {7200, 1440, 20160, 1440};
+    private static final int[] MARKS = {0, 1, 2, 4};
 
     public static void main(String[] args) {
         hows();
@@ -179,7 +180,7 @@ public final class ProcessingBoundsTest {
         thawed.then(x -> x.process(1, 3)).answers("thawed twice", 4, x -> x.of(2, 4));
     }
 
-    /** "They have its group, rhesus, antigens ..., if nothing else is said", "in state 0". */
+    /** "They have its group, rhesus, antigens and marks, if nothing else is said", "in state 0". */
     private static void productsAreAsTheSource() {
         for (int n = 0; n < 32; n++) {
             int how = n / 8;
@@ -193,6 +194,7 @@ public final class ProcessingBoundsTest {
                 story.answers("state", 0, x -> x.of(product, 0)).answers("group", group, x -> x.of(product, 2));
                 story.answers("rhesus", rhesus, x -> x.of(product, 3)).answers("antigen 0", 1, x -> x.has(product, 0));
                 story.answers("antigen 7", 0, x -> x.has(product, 7)).answers("antigen 1", 2, x -> x.has(product, 1));
+                story.answers("marks", MARKS[how], x -> x.of(product, 4));
                 story.then(x -> x.quarantine(3, true)).answers("donor", 1, x -> x.of(product, 7));
             }
             story.answers("the source is used up", 5, x -> x.of(0, 0));

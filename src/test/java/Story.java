@@ -125,12 +125,16 @@ final class Story {
 
     /** The listing call tells these and no more, and NONE before the first and behind the last. */
     Story lists(String what, Listing listing, int... due) {
+        int[] outside = {-1, due.length, Integer.MIN_VALUE, Integer.MAX_VALUE};
+        TypedBlood asked = tell();
         for (int i = 0; i < due.length; i++) {
             int place = i;
             answers(what + " " + i, due[i], x -> listing.at(x, place));
+            Check.same(what + " " + i + ", asked after others", listing.at(asked, i), due[i]);
         }
-        for (int i : new int[] {-1, due.length, Integer.MIN_VALUE, Integer.MAX_VALUE}) {
+        for (int i : outside) {
             answers(what + " " + i, Check.NONE, x -> listing.at(x, i));
+            Check.same(what + " " + i + ", asked after others", listing.at(asked, i), Check.NONE);
         }
         return this;
     }

@@ -136,7 +136,7 @@ public final class ThrowsOrderTest {
         whole.then(x -> x.discard(0, 1)).refuses("discarded whole blood", Check.STATE, x -> x.crossmatch(0, 0, true));
     }
 
-    /** Unit 0 is whole blood, unit 1 red cells, unit 2 plasma, all of donor 1; patient 0 is confirmed, patient 1 locked. */
+    /** Whole blood, red cells and plasma, all of donor 1; patient 0 is confirmed, patient 1 locked. */
     private static Story forbidden() {
         return Story.begin().then(x -> Check.confirmed(x, Check.AB, 0), x -> Check.locked(x),
             x -> x.unit(1, Check.WHOLE, Check.O, 0, 100), x -> x.unit(1, Check.RED, Check.O, 0, 100),

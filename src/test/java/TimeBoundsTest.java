@@ -75,22 +75,25 @@ public final class TimeBoundsTest {
         Check.same("call 512", x.lookback(0, 0), p);
     }
 
+    private static Story stored() {
+        return Story.begin().then(x -> x.patient(), x -> x.patient(), x -> Check.plasma(x, 3), x -> x.pass(6));
+    }
+
     private static Story reserved() {
-        return Story.begin().then(x -> x.patient(), x -> x.patient(), x -> Check.plasma(x, 3), x -> x.pass(6),
-            x -> x.reserve(1, 0));
+        return stored().then(x -> x.reserve(1, 0));
     }
 
     /** "A reservation lasts 4320 minutes; then the unit is stored." */
     private static void aSpanLastsAsLongAsFewerHavePassed() {
-        Story story = Story.begin().then(x -> x.patient(), x -> x.patient(), x -> Check.plasma(x, 3), x -> x.pass(6));
-        story.answers("the minute at which that ends", 4326, x -> x.reserve(1, 0));
+        stored().answers("the minute at which that ends", 4326, x -> x.reserve(1, 0));
         for (int minutes : new int[] {0, 1, 4318, 4319}) {
             reserved().then(x -> x.pass(minutes)).answers("reserved", 1, x -> x.of(0, 0))
                 .answers("for whom", 1, x -> x.of(0, 6)).answers("counted", 1, x -> x.count(Check.PLASMA, 1));
         }
         for (int minutes : new int[] {4320, 4321, 50000}) {
             reserved().then(x -> x.pass(minutes)).answers("stored", 0, x -> x.of(0, 0))
-                .answers("for nobody", Check.NONE, x -> x.of(0, 6)).answers("counted", 0, x -> x.count(Check.PLASMA, 1));
+                .answers("for nobody", Check.NONE, x -> x.of(0, 6))
+                .answers("counted", 0, x -> x.count(Check.PLASMA, 1));
         }
     }
 

@@ -3,7 +3,8 @@ import java.util.List;
 
 /**
  * All that calls can tell of an object, line by line: what can be asked, and what its next calls answer, at once and
- * when spans are nearly over. The object is made anew for each line, so that none has more than 512 calls.
+ * when spans are nearly over; and the same once more when all that is issued has come back and nobody is locked, as
+ * minutes that are kept show only then. The object is made anew for each line, so that none has more than 512 calls.
  */
 final class Trace {
     interface Maker {
@@ -21,6 +22,7 @@ final class Trace {
     private final Maker maker;
     private final int units;
     private final int patients;
+    private boolean undone;
     private int later;
     private StringBuilder text;
 
@@ -33,11 +35,14 @@ final class Trace {
 
     static List<String> of(Maker maker) {
         Trace trace = new Trace(maker);
-        for (int minutes : LATER) {
-            trace.later = minutes;
-            trace.writeUnits();
-            trace.writePatients();
-            trace.writeStore();
+        for (boolean undone : new boolean[] {false, true}) {
+            trace.undone = undone;
+            for (int minutes : LATER) {
+                trace.later = minutes;
+                trace.writeUnits();
+                trace.writePatients();
+                trace.writeStore();
+            }
         }
         return trace.lines;
     }
@@ -56,8 +61,15 @@ final class Trace {
     }
 
     private void line(String what, Line line) {
-        text = new StringBuilder(what).append(", ").append(later).append(" minutes later:");
+        text = new StringBuilder(what).append(undone ? ", all undone, " : ", ").append(later).append(" minutes later:");
         TypedBlood x = maker.make();
+        if (undone) {
+            giveAllBack(x);
+            for (int n = 0; n < patients; n++) {
+                int p = n;
+                attempt(y -> unlock(y, p), x);
+            }
+        }
         x.pass(later);
         line.write(x);
         lines.add(text.toString());
@@ -88,12 +100,19 @@ final class Trace {
                 }
             });
         }
-        line("giveBack of all units", x -> {
-            for (int n = 0; n < units; n++) {
-                int u = n;
-                attempt(y -> y.giveBack(u), x);
-            }
-        });
+        line("giveBack of all units", x -> giveAllBack(x));
+    }
+
+    private void giveAllBack(TypedBlood x) {
+        for (int n = 0; n < units; n++) {
+            int u = n;
+            attempt(y -> y.giveBack(u), x);
+        }
+    }
+
+    private static int unlock(TypedBlood x, int p) {
+        x.unlock(p, Check.O, 0);
+        return p;
     }
 
     private void writePatients() {
@@ -118,6 +137,10 @@ final class Trace {
                     int issued = u;
                     attempt(y -> y.issue(p, issued), x);
                 }
+            });
+            line("a new unit for patient " + p, x -> {
+                attempt(y -> y.need(p, 0), x);
+                attempt(y -> y.issue(p, Check.plasma(y, 0)), x);
             });
             writeSamples(p);
         }

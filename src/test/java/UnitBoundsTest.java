@@ -122,8 +122,11 @@ public final class UnitBoundsTest {
 
     /** "IndexOutOfBoundsException when there is no such what." */
     private static void whatOfAUnit() {
-        Story.everyState(Check.PLASMA).bounds("what", Check.INDEX, 0, 9, (x, n) -> x.of(0, n))
-            .bounds("what of a discarded one", Check.INDEX, 0, 9, (x, n) -> x.of(4, n));
+        Story story = Story.everyState(Check.PLASMA);
+        for (int state = 0; state < 6; state++) {
+            int u = state;
+            story.bounds("what in state " + u, Check.INDEX, 0, 9, (x, n) -> x.of(u, n));
+        }
     }
 
     /** "The patient for whom it is reserved, or to whom it was issued and not given back (... 6, NONE)". */
