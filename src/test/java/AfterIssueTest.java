@@ -175,12 +175,7 @@ public final class AfterIssueTest {
         for (int i = 0; i < 6; i++) {
             x.unit(1, Check.PLASMA, Check.AB, 0, 100);
         }
-        x.reserve(p, 1);
-        x.issue(p, 2);
-        x.issue(p, 3);
-        x.transfused(3);
-        x.discard(4, 1);
-        x.process(5, 3);
+        Check.bringIntoEachState(x, p);
         x.pass(100);
         Check.same("stored, reserved and made of one; expired or not", x.quarantine(1, true), 3);
         for (int u = 0; u < 7; u++) {

@@ -109,4 +109,14 @@ final class Check {
     static int redCells(TypedBlood x, int donor) {
         return x.unit(donor, RED, O, 0, 60000);
     }
+
+    /** Units 0 .. 5, stored plasma that may be issued to the patient, come into the states of their numbers. */
+    static void bringIntoEachState(TypedBlood x, int p) {
+        x.reserve(p, 1);
+        x.issue(p, 2);
+        x.issue(p, 3);
+        x.transfused(3);
+        x.discard(4, 1);
+        x.process(5, 3);
+    }
 }

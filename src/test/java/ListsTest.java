@@ -161,12 +161,7 @@ public final class ListsTest {
             x.unit(u, Check.PLASMA, Check.AB, 0, 100);
         }
         x.quarantine(0, true);
-        x.reserve(p, 1);
-        x.issue(p, 2);
-        x.issue(p, 3);
-        x.transfused(3);
-        x.discard(4, 1);
-        x.process(5, 3);
+        Check.bringIntoEachState(x, p);
         lists("stored or reserved, barred too", i -> x.expiring(100, i), 0, 1, 6, 7);
     }
 
